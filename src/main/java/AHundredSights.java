@@ -438,8 +438,8 @@ public final class AHundredSights {
         return told == sky.all();
     }
 
-    // Who waits can only lose by it: an order whose bound is no more than the best so far
-    // can't be the first of most WORTH, so it is not gone through.
+    // No more than what those left pay can still come: where that is no more than the best so
+    // far, none of these orders can be the first of most WORTH, so they are not gone through.
     private static void tryOrders(Choice choice, Walk walk, int place, int gone, int digits, int payable) {
         if (place >= walk.sky.size || place >= MOST_SIGHTS) {
             choice.weigh(digits, walk.worth);
@@ -1082,17 +1082,16 @@ public final class AHundredSights {
         }
 
         private boolean readOne() {
-            switch (token) {
-                case A_NUMBER: return readLeaf(value);
-                case A_NAME: return readLeaf(Text.FIRST_NAME - value);
-                case '-': return readNegated();
-                case '(': return readEnclosed();
-                default: return false;
+            if (token == '-') {
+                return readNegated();
             }
-        }
-
-        private boolean readLeaf(int mark) {
-            into.add(mark);
+            if (token == '(') {
+                return readEnclosed();
+            }
+            if (token != A_NUMBER && token != A_NAME) {
+                return false;
+            }
+            into.add(token == A_NUMBER ? value : Text.FIRST_NAME - value);
             advance();
             return true;
         }
@@ -1113,8 +1112,11 @@ public final class AHundredSights {
                 return false;
             }
             advance();
-            boolean stands = readEither() && passes(')');
+            boolean stands = readEither() && token == ')';
             open--;
+            if (stands) {
+                advance();
+            }
             return stands;
         }
 

@@ -218,6 +218,10 @@ public final class PromiseTest {
         due("left of the strip", x.shines(0, 80, 1), 0);
         x.set(9, 0, 96);
         due("the strip goes over all y", x.shines(0, 80, 1), 1);
+        x.set(8, 5, 0);
+        due("FLARING by NUMBER 0 in 51", x.shines(5, 51, 0), 1);
+        due("FLARING by NUMBER 0 in 52", x.shines(5, 52, 0), 0);
+        due("FLARING by NUMBER 0 in 53", x.shines(5, 53, 0), 1);
         due("tick 200", x.shines(0, 200, 0), -2);
         due("tick -1", x.shines(0, -1, 0), -2);
         due("what 2", x.shines(0, 0, 2), -2);
@@ -272,6 +276,7 @@ public final class PromiseTest {
             "turns (^) ;", "turns (1^", "turns ((1) ^;", "turns far ; finds ^finds", "turns far ; finds 5 ; waits ^waits",
             "turns (((((^(1)))))) ;", "turns -----^-1 ;", "turns not not not not not ^not 1 ;", "turns not (-(-^(1))) ;",
             "turns not (-(-^-1)) ;", "turns not (-((^not 1))) ;", "turns (1) + (((((^(1)))))) ;",
+            "^xurns far ;", "turns ^xar ;", "turns ^fax ;", "turns ^fa ;", "turns ^farr ;", "turns number ^far ;",
             "turns far ; finds 5 ; waits 0 ; ^turns far ; finds 5 ; waits 0 ;",
         };
         for (String marked : faults) {
@@ -426,6 +431,13 @@ public final class PromiseTest {
         due("the TICK at last", x.night(3), 200);
         x.set(4, 0, 195);
         due("none above 199", x.night(12), -1);
+        AHundredSights last = withSights(0, 0, 0);
+        ruleOf(last, "turns 0 ; finds 1 ; waits 4 ;");
+        last.set(10, 0, 199);
+        due("TICK 199 alone", last.night(10), 199);
+        due("WAITED at the most", last.night(20), 199);
+        last.set(6, 0, 198);
+        due("one TICK of waiting costs too", last.night(0), 10 - 4);
         for (int what : new int[] {-1, 5, 6, 9, 13, 19, 23, 29, 30, 31, 100, -10, -1000000}) {
             due("night(" + what + ")", x.night(what), WRONG);
         }
@@ -934,7 +946,8 @@ public final class PromiseTest {
         row(x, 0, 2, 4);
         due("4 is in it", x.lists(0, 0), 0);
         due("a new row", x.sheet(0, 2, 1), 1);
-        due("all 0", x.lists(0, 0), 1);
+        due("4 isn't in it", x.lists(0, 0), 1);
+        due("all 0: it tells SIGHT 0", x.order(0, 1), 1);
         due("-14 changes nothing", x.sheet(0, 2, -7), -14);
         due("it is there", x.cell(0, 0, 4), 1);
         due("missing: n does not matter", x.sheet(0, -1, -7), 1);
@@ -1011,6 +1024,7 @@ public final class PromiseTest {
         due("-12: what stood ahead came", x.sights(0, 0, 4, 7), -12);
         due("what stood ahead came", x.count(0), 3);
         due("two items of three", x.sights(0, 0, 10, 1), -12);
+        due("the last three: 0, 5, 5", x.sights(0, 0, 9, 1), 1);
         due("from -1", x.sights(0, 0, -1, 1), -12);
         due("from far outside", x.sights(0, 0, 2147483647, 1), -12);
         due("none", x.sights(0, 0, 2147483647, 0), 0);
@@ -1024,9 +1038,9 @@ public final class PromiseTest {
         due("sort -1", x.sights(0, -1, 0, 1), -2);
         due("n 8", x.sights(0, 0, 0, 8), -2);
         due("n -1", x.sights(0, 0, 0, -1), -2);
-        due("none came", x.count(0), 3);
+        due("none of these came", x.count(0), 4);
         x.sheet(2, 2, 40);
-        due("those for whom there is room", x.sights(2, 2, 0, 7), 4);
+        due("those for whom there is room", x.sights(2, 2, 0, 7), 3);
         due("FULL", x.count(0), 7);
         due("others are left out", x.sights(2, 2, 0, 7), 0);
         due("the place is looked at all the same", x.sights(2, 2, 30, 4), -12);
