@@ -10,6 +10,8 @@ public final class BestBoundaryTest {
     public static void main(String[] args) {
         whatIsAsked();
         best();
+        bestFromEachSpot();
+        bestAndWhichOneItIs();
         bestOfLikeOnes();
         setting();
         late();
@@ -66,6 +68,30 @@ public final class BestBoundaryTest {
             rule "turns 0 ; finds 5 ; waits 9 ;"
             best(0) = -1690; best(1) = 12
             set(11, 0, 199) = 4; best(0) = -1690; best(1) = 12
+            """);
+    }
+
+    private static void bestFromEachSpot() {
+        RUNS.of("BEST: of all orders: by each he begins where, when he BEGINS", """
+            sight(0, 0, 9) = 0; sight(0, 0, 5) = 1; set(11, 1, 8) = 199
+            best(0) = 10; best(1) = 12; set(11, 1, 9) = 8; best(0) = 20; best(1) = 21
+            set(11, 0, 18) = 199; best(0) = 20; set(11, 0, 17) = 18; best(0) = 10; best(1) = 12
+            """);
+    }
+
+    private static void bestAndWhichOneItIs() {
+        RUNS.of("BEST, BY SETTING: which one of the order it is goes by that order", """
+            sight(0, 0, 0) = 0; sight(0, 0, 0) = 1; set(11, 1, 4) = 199
+            rule "turns order * 9 ; finds 5 ; waits 0 ;"
+            night(0) = 10; best(0) = 20; best(1) = 21; setting(0) = 20; setting(1) = 21
+            """);
+        RUNS.of("BEST: that of most WORTH: one that pays less may come first", """
+            sight(0, 0, 0) = 0; sight(0, 0, 0) = 1; set(11, 1, 4) = 199; set(12, 0, 99) = 10; best(0) = 109; best(1) = 21
+            """);
+        RUNS.of("SLEEP: which one of the order it is goes by that order, asleep or not", """
+            sight(0, 0, 0) = 0; sight(0, 0, 0) = 1; set(7, 0, 0) = 199; set(10, 1, 11) = 0
+            rule "turns order * 9 ; finds 5 ; waits 0 ;"
+            sleep(1, 0) = 0; sleep(1, 1) = 20
             """);
     }
 

@@ -296,13 +296,14 @@ public final class HostBoundaryTest {
 
     /** No call may throw, for any arguments in any state (LANGUAGE.md, rule 7). */
     private static void anyArguments() {
+        RUNS.of("No call may ever throw or fail to end, for any arguments in any state");
         int[] odd = {LEAST, -1, 0, 1, 3, 7, 20, 199, 256, MOST};
         AHundredSights[] ways = {used(0), used(1), used(2)};
         int calls = 0;
         for (int a : odd) {
             for (int b : odd) {
                 for (int c : odd) {
-                    // Those that are made anew, so that none is used for more than 512 calls.
+                    // After ten rounds of 31 calls each is made anew, so that none is used for more than 512.
                     for (int way = 0; way < ways.length; way++, calls++) {
                         ways[way] = calls % 30 < 3 ? used(way) : ways[way];
                         callAll(ways[way], a, b, c);

@@ -20,6 +20,7 @@ public final class NightBoundaryTest {
         whatIsAskedOfANight();
         whatIsToldOfANight();
         anOrder();
+        anOrderOfUnlikeOnes();
         ordersThatAreNone();
         ordersOfAnEmptySky();
         RUNS.end();
@@ -245,6 +246,20 @@ public final class NightBoundaryTest {
         RUNS.of("10: of seven", SEVEN, """
             row 0 1 = 6 5 4 3 2 1 0
             order(0, 10) = 34; order(0, 16) = 4; order(0, 26) = 0; order(0, 17) = -100000; order(0, 27) = -100000
+            """);
+    }
+
+    private static void anOrderOfUnlikeOnes() {
+        RUNS.of("10: of each by the order: its own KIND, NUMBER, SPOT, and which one it is", """
+            sight(0, 7, 0) = 0; sight(3, 3, 50) = 1; sight(2, 5, 0) = 2; set(11, 2, 0) = 199; set(7, 0, 0) = 199
+            row 0 0 = 1 2 0
+            order(0, 10) = 24; order(0, 11) = 14; order(0, 12) = NONE; order(0, 2) = 3; order(0, 1) = 2; order(0, 0) = 36
+            rule "turns number ; finds 5 ; waits 0 ;"
+            order(0, 11) = 12; order(0, 10) = 24; order(0, 3) = 25
+            rule "turns order * 9 ; finds 5 ; waits 0 ;"
+            order(0, 11) = NONE; order(0, 10) = 22; order(0, 2) = 1
+            rule "turns 3 + height ; finds 5 ; waits 0 ;"
+            order(0, 11) = 17; order(0, 10) = 25
             """);
     }
 

@@ -162,6 +162,12 @@ public final class SkyBoundaryTest {
             sight(0, 0, 0) = 0; sight(0, 0, 9) = 1
             shines(0, 0, 1) = 0; shines(0, 199, 1) = 0; shines(1, 0, 1) = 0; shines(1, 199, 1) = 0
             """);
+        RUNS.of("5: is in CLOUD: each of seven by its own SPOT", """
+            sight(0, 0, 0) = 0; sight(0, 0, 11) = 1; sight(0, 0, 22) = 2; sight(0, 0, 33) = 3
+            sight(0, 0, 44) = 4; sight(0, 0, 55) = 5; sight(0, 0, 66) = 6
+            set(3, 0, 0) = 199; set(4, 0, 199) = 0; set(1, 0, 0) = 9; shines(0, 9, 1) = 1; shines(1, 9, 1) = 0
+            set(2, 0, 6) = 0; set(1, 0, 6) = 0; shines(5, 9, 1) = 0; shines(6, 9, 1) = 1
+            """);
         RUNS.of("over all the sky, all the night: all are MISSED", """
             sight(0, 0, 0) = 0; sight(0, 0, 99) = 1
             set(1, 0, 0) = 9; set(2, 0, 9) = 0; set(3, 0, 0) = 199; set(4, 0, 199) = 0
@@ -296,7 +302,7 @@ public final class SkyBoundaryTest {
         dueNeeds("SIGHT: v", "set(0, 0, 9) = 0", 0, 6, 5);
         dueNeeds("FAINT: m more than a SIGHT (MOON 0)", "told(0, 0) = 0", 1, 6, 5);
         dueNeeds("FAINT: m more than a SIGHT (MOON 9)", "set(0, 0, 9) = 0", 1, 6, 14);
-        dueNeeds("BRIGHT: half (cut) of a SIGHT's", "set(0, 0, 9) = 0", 2, 6, 2);
+        dueNeeds("BRIGHT: half (cut) of a SIGHT's; Quotients are cut toward 0: of 5", "set(0, 0, 9) = 0", 2, 6, 2);
         dueNeeds("BRIGHT: half (cut) of a SIGHT's: of 4", "rule \"turns 0 ; finds 4 ; waits 0 ;\"", 2, 6, 2);
         dueNeeds("BRIGHT: half (cut) of a SIGHT's: of 99", "rule \"turns 0 ; finds 99 ; waits 0 ;\"", 2, 6, 49);
         dueNeeds("LOST: twice a FAINT's (MOON 0)", "told(0, 0) = 0", 3, 6, 10);

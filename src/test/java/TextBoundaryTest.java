@@ -64,12 +64,24 @@ public final class TextBoundaryTest {
         RUNS.of("a FAULT in the last of 160 bytes");
         RUNS.feed(FIRST + blanks(MOST_BYTES - FIRST.length() - 1) + ";");
         RUNS.due(-100 - (MOST_BYTES - 1), "text");
-        RUNS.of("an E of as many TERMS as go into 160 bytes", "sight(0, 0, 0) = 0");
-        RUNS.feed("turns 99" + "-1".repeat(66) + ";finds 1 ; waits 0 ;");
+        dueLong("an E of as many TERMS as go into 160 bytes", "99" + "-1".repeat(66), 99 - 66);
+        dueLong("a TERM of as many ONES as go into 160 bytes", "1" + "*1".repeat(65) + "*7", 7);
+        dueLong("an E of as many ANDS as go into 160 bytes: the last is 1", "0" + "or0".repeat(43) + "or9", 1);
+        dueLong("an E of as many ANDS as go into 160 bytes: none is 1", "0" + "or0".repeat(44), 0);
+        dueLong("an AND of as many NOTS as go into 160 bytes: all are 1", "1" + "and1".repeat(33), 1);
+        dueLong("an AND of as many NOTS as go into 160 bytes: the last is 0", "1" + "and1".repeat(32) + "and0", 0);
+        dueLong("of or, and, <, +, * each one open, in each of 5 (", "7*(" + "0or 1and 0<1+1*(".repeat(4) + "2" + ")".repeat(5), 7);
+    }
+
+    /** What an E tells as turns, of one SIGHT that is FOUND in one TICK; the bytes that are left are blanks. */
+    private static void dueLong(String sentence, String e, int want) {
+        String text = "turns " + e + ";finds 1 ; waits 0 ;";
+        RUNS.of(sentence, "sight(0, 0, 0) = 0");
+        RUNS.feed(text + blanks(MOST_BYTES - text.length()));
         RUNS.due(AHundredSights.FULL, "feed", 32);
         RUNS.due(1, "text");
         RUNS.due(0, "force", 1);
-        RUNS.due(99 - 66, "night", 10);
+        RUNS.due(want, "night", 10);
     }
 
     private static void tokens() {
@@ -90,6 +102,10 @@ public final class TextBoundaryTest {
             fault "turns ^nott 1 ;"
             fault "turns ^z ;"
             fault "turns ^a ;"
+            fault "^burns far ; finds 5 ; waits 0 ;"
+            fault "turns ^car ;"
+            fault "turns ^fat ;"
+            fault "turns ^fir ;"
             """);
         each("NUMBERS (as many digits as stand there, 4 at most)", """
             text "turns 9999 ; finds 0000 ; waits 0 ;" = 1
@@ -108,6 +124,21 @@ public final class TextBoundaryTest {
             fault "turns 1 ^word ;"
             fault "^Turns far ;"
             fault "turns ^FAR ;"
+            """);
+        each("what is no TOKEN is none wherever it stands: behind what may be told once more", """
+            fault "turns ( ^word 1 ) ;"
+            fault "turns (^word 1) ;"
+            fault "turns - ^word 1 ;"
+            fault "turns -^word 1 ;"
+            fault "turns not ^word 1 ;"
+            fault "turns ( ^12345 1 ) ;"
+            fault "turns (^12345 1) ;"
+            fault "turns - ^12345 1 ;"
+            fault "turns not ^12345 1 ;"
+            fault "turns ( ^! 1 ) ;"
+            fault "turns (^! 1) ;"
+            fault "turns -^! 1 ;"
+            fault "turns not ^! 1 ;"
             """);
     }
 
@@ -264,6 +295,28 @@ public final class TextBoundaryTest {
             text "turns far ; finds 5 ; waits 0 ;" = 1
             count(2) = 0; count(1) = 2; feed(116) = 1
             """);
+        RUNS.of("7: THE TAPE is empty then: of what stood there ahead nothing is read", """
+            fault "turns ^12345"
+            text "turns 1" = -107
+            fault "turns ^farther"
+            text "turns far" = -109
+            fault "turns far ; finds 5 ; waits 0 ; ^0"
+            text "turns far ; finds 5 ; waits 0 ;" = 1
+            """);
+        RUNS.of("ends too early: a NUMBER, a WORD in the last of 160 bytes");
+        RUNS.feed("turns" + blanks(MOST_BYTES - 9) + "1234");
+        RUNS.due(-100 - MOST_BYTES, "text");
+        RUNS.feed("turns" + blanks(MOST_BYTES - 8) + "far");
+        RUNS.due(-100 - MOST_BYTES, "text");
+        RUNS.of("7: by a FAULT, too: what was read of it ahead is in no TEXT", "sight(0, 0, 0) = 0");
+        for (int i = 0; i < 2; i++) {
+            RUNS.feed("turns 1" + "+1".repeat(70) + "+;");
+            RUNS.due(-100 - 148, "text");
+        }
+        RUNS.feed("turns 7;finds 1;waits 0;");
+        RUNS.due(1, "text");
+        RUNS.due(0, "force", 1);
+        RUNS.due(7, "night", 10);
     }
 
     private static void openParentheses() {
