@@ -11,7 +11,8 @@ import java.util.regex.Pattern;
  * <pre>
  *   set(0, 0, 9) = 0; told(0, 0) = 9    calls and the answers that are due, by number or by a constant's name
  *   new                                 the calls behind it go to a new object
- *   text "turns far ; ..." = 1          feed() of each byte (\n: 10), then text()
+ *   feed "turns far ; ..."              feed() of each byte (\n: 10)
+ *   text "turns far ; ..." = 1          the same, then text()
  *   fault "turns ^; ..."                the same, the FAULT being where the ^ stands (it isn't fed)
  *   rule "turns far ; ..."              the same as text, and the TEXT is THE RULE
  *   row 0 2 = 7 -1                      SHEET 0 becomes a row of sort 2 of these numbers
@@ -26,7 +27,7 @@ final class Runs {
     private static final Map<String, Long> NAMED = new HashMap<>(Map.of("NONE", -1L, "BAD", -2L, "STATE", -3L,
         "FULL", -4L, "NO", AHundredSights.NO));
     private static final Pattern ONE_CALL = Pattern.compile("(\\w+)\\(([^)]*)\\) = (-?\\w+)");
-    private static final Pattern QUOTED = Pattern.compile("(text|fault|rule) \"([^\"]*)\"(?: = (-?\\w+))?");
+    private static final Pattern QUOTED = Pattern.compile("(feed|text|fault|rule) \"([^\"]*)\"(?: = (-?\\w+))?");
     private static final Pattern ROW = Pattern.compile("row (\\d) (\\d) =((?: -?\\d+)*)");
 
     private final List<Call> changes = new ArrayList<>();
@@ -100,6 +101,9 @@ final class Runs {
     private void quoted(String how, String marked, String told) {
         String text = how.equals("fault") ? marked.replace("^", "") : marked;
         feed(text);
+        if (how.equals("feed")) {
+            return;
+        }
         if (how.equals("fault")) {
             due(-100 - marked.indexOf('^'), "text");
         } else if (how.equals("text")) {
